@@ -746,8 +746,6 @@ public final class ThresholdLines {
     private static final class Tokens {
         /** Where the token begins; behind the last one the tape's length. */
         int start;
-        /** A WORD_ number, or 0 if it is none of the words. */
-        int word;
         /** What a number counts to, NONE if the token is no number. */
         int number;
         boolean atEnd;
@@ -767,13 +765,13 @@ public final class ThresholdLines {
                 next++;
             }
             start = next;
-            word = 0;
             number = NONE;
             atEnd = next >= tape.length;
             if (isDigit(tape.byteAt(next))) {
                 takeNumber();
-            } else if (isLetter(tape.byteAt(next))) {
-                takeWord();
+            }
+            while (number == NONE && next < tape.length && isLetter(tape.byteAt(next))) {
+                next++;
             }
         }
 
@@ -786,14 +784,8 @@ public final class ThresholdLines {
             }
         }
 
-        private void takeWord() {
-            while (next < tape.length && isLetter(tape.byteAt(next))) {
-                next++;
-            }
-            word = wordFound();
-        }
-
-        private int wordFound() {
+        /** The WORD_ number of the token, 0 if it is none of the words. */
+        int wordFound() {
             if (spells("plain")) {
                 return WORD_PLAIN;
             } else if (spells("set")) {
@@ -880,7 +872,7 @@ public final class ThresholdLines {
         /** Reads an E with so many words open around it. */
         private boolean readOne(int open, int slot) {
             tokens.advance();
-            int word = tokens.word;
+            int word = tokens.wordFound();
             int place = tokens.start;
             if (slot < 0 || slot >= slots.length || word == 0) {
                 return tape.fail(WRONG_TOKEN, place);

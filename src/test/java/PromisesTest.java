@@ -317,7 +317,10 @@ public final class PromisesTest {
         Check.due("change 1 j", x.change(1, 1), 1);
         Check.due("change 1 then", x.change(1, 2), 1);
         Check.due("change 2", x.change(2, 0), -1);
+        Check.due("change 2, then", x.change(2, 2), -1);
         Check.due("change -1", x.change(-1, 0), -1);
+        Check.due("change -1, then", x.change(-1, 2), -1);
+        Check.due("change high, then", x.change(HIGH, 2), -1);
         Check.due("change high", x.change(HIGH, 0), -1);
         Check.due("change low", x.change(LOW, 0), -1);
         Check.due("change what 3", x.change(0, 3), -1);
@@ -465,6 +468,9 @@ public final class PromisesTest {
         drawFault("plai 1 1", 1, 0);
         drawFault(" Plain 1 1", 1, 1);
         drawFault("turnplain 1 1", 1, 0);
+        drawFault("turnz plain 1 1", 1, 0);
+        drawFault("turna plain 1 1", 1, 0);
+        drawFault("turn{ plain 1 1", 1, 4);
         drawFault("turn 1", 1, 5);
         drawFault("row plain 1 1", 1, 4);
         drawFault("kept plain", 1, 5);
