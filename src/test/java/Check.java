@@ -20,6 +20,14 @@ final class Check {
         due(call, got ? 1 : 0, want ? 1 : 0);
     }
 
+    static int asked() {
+        return asked;
+    }
+
+    static int wrong() {
+        return wrong;
+    }
+
     /** Feeds a text whole, whatever its length up to 200 (and characters 0 to 255). */
     static void tape(ThresholdLines x, String text) {
         x.end(0);
