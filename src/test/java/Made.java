@@ -62,8 +62,10 @@ final class Made {
 
     /** The points of a line's walk, the left one of its first square first. */
     static List<int[]> points(ThresholdLines x, int l) {
-        int wide = x.about(0);
-        List<Integer> squares = walk(x, l);
+        return points(x.about(0), walk(x, l));
+    }
+
+    static List<int[]> points(int wide, List<Integer> squares) {
         int a = squares.get(0) % (2 * wide);
         int b = squares.get(0) / (2 * wide);
         int[] at = {a, (a + b) % 2 == 0 ? b + 1 : b};
